@@ -1,3 +1,8 @@
+import java.lang.reflect.InvocationTargetException;
+import java.lang.reflect.Method;
+import java.util.Arrays;
+import java.util.Comparator;
+
 /** Compares answers with the ones that are due, prints the others, and ends with 1 if there were any. */
 final class Due {
     interface Call {
@@ -14,6 +19,7 @@ final class Due {
 
     private static int checks = 0;
     private static int wrong = 0;
+    private static String test = "";
 
     private Due() {
     }
@@ -48,7 +54,37 @@ final class Due {
     static void fault(String what) {
         wrong++;
         if (wrong <= 20) {
-            System.out.println("  " + what);
+            System.out.println("  " + test + what);
+        }
+    }
+
+    /** Runs every test of a class, each under its own name: no list to forget one in. */
+    static void all(Class<?> tests) throws IllegalAccessException {
+        Method[] methods = tests.getDeclaredMethods();
+        Arrays.sort(methods, Comparator.comparing(Method::getName));
+        int run = 0;
+        for (Method method : methods) {
+            if (method.getName().matches("(terms|promise\\d+)[A-Z].*")) {
+                run++;
+                one(method);
+            }
+        }
+        test = "";
+        System.out.println("  " + run + " tests");
+        end();
+    }
+
+    private static void one(Method method) throws IllegalAccessException {
+        test = method.getName() + ": ";
+        int before = checks;
+        method.setAccessible(true);
+        try {
+            method.invoke(null);
+        } catch (InvocationTargetException ended) {
+            fault("ended by " + ended.getCause());
+        }
+        if (checks == before) {
+            fault("checks nothing");
         }
     }
 

@@ -1,15 +1,15 @@
 /** Promise 24: propose. */
 public final class ProposeTest {
     public static void main(String[] args) {
-        theLowestWithoutPlays();
-        theOnePlayedMost();
-        onlyForSoManyPeople();
-        onlyWithATable();
-        onlyWithACopy();
-        knowingIt();
-        noneBehindSixtyGroups();
-        changesNothing();
-        refusals();
+        promise24TheLowestWithoutPlays();
+        promise24TheOnePlayedMost();
+        promise24OnlyForSoManyPeople();
+        promise24OnlyWithATable();
+        promise24OnlyWithACopy();
+        promise24KnowingIt();
+        promise24NoneBehindSixtyGroups();
+        promise24ChangesNothing();
+        promise24Refusals();
         Due.end();
     }
 
@@ -27,7 +27,7 @@ public final class ProposeTest {
         }
     }
 
-    private static void theLowestWithoutPlays() {
+    private static void promise24TheLowestWithoutPlays() {
         GameCafe cafe = new GameCafe();
         cafe.buy(4);
         Due.is("the only one", 4, cafe.propose(2));
@@ -37,7 +37,7 @@ public final class ProposeTest {
         Due.is("game 0", 0, cafe.propose(2));
     }
 
-    private static void theOnePlayedMost() {
+    private static void promise24TheOnePlayedMost() {
         GameCafe cafe = withAllGames();
         play(cafe, 3, 1);
         Due.is("played once", 3, cafe.propose(2));
@@ -52,7 +52,7 @@ public final class ProposeTest {
         cafe.go(group);
     }
 
-    private static void onlyForSoManyPeople() {
+    private static void promise24OnlyForSoManyPeople() {
         GameCafe cafe = withAllGames();
         Due.is("nothing for one", GameCafe.NONE, cafe.propose(1));
         Due.is("nothing for five", GameCafe.NONE, cafe.propose(5));
@@ -67,7 +67,7 @@ public final class ProposeTest {
         Due.is("played more, but not for five", 2, cafe.propose(5));
     }
 
-    private static void onlyWithATable() {
+    private static void promise24OnlyWithATable() {
         GameCafe cafe = withAllGames();
         cafe.setGame(0, 1, 8, 10);
         Due.is("seven", 0, cafe.propose(7));
@@ -80,7 +80,7 @@ public final class ProposeTest {
         Due.is("eight seats", 0, cafe.propose(8));
     }
 
-    private static void onlyWithACopy() {
+    private static void promise24OnlyWithACopy() {
         GameCafe cafe = withAllGames();
         cafe.count(0, 3, -2);
         Due.is("game 0 cannot be played", 1, cafe.propose(2));
@@ -94,7 +94,7 @@ public final class ProposeTest {
         Due.is("game 1 is back and has what it needs", 1, cafe.propose(2));
     }
 
-    private static void knowingIt() {
+    private static void promise24KnowingIt() {
         GameCafe cafe = withAllGames();
         for (int one = 0; one < 3; one++) {
             for (int game = 0; game < 5; game++) {
@@ -104,7 +104,7 @@ public final class ProposeTest {
         Due.is("without a teacher", 0, cafe.propose(2));
     }
 
-    private static void noneBehindSixtyGroups() {
+    private static void promise24NoneBehindSixtyGroups() {
         GameCafe cafe = withAllGames();
         play(cafe, 1, 59);
         Due.is("behind 59", 1, cafe.propose(2));
@@ -113,7 +113,7 @@ public final class ProposeTest {
         Due.refuses("behind 60, people 9", Due.ARGUMENT, () -> cafe.propose(9));
     }
 
-    private static void changesNothing() {
+    private static void promise24ChangesNothing() {
         GameCafe cafe = withAllGames();
         cafe.propose(2);
         Due.is("at(0)", GameCafe.NONE, cafe.at(0));
@@ -122,7 +122,7 @@ public final class ProposeTest {
         Due.is("the first group", 0, cafe.seat(2, 0, true));
     }
 
-    private static void refusals() {
+    private static void promise24Refusals() {
         GameCafe cafe = withAllGames();
         Due.refuses("propose(0)", Due.ARGUMENT, () -> cafe.propose(0));
         Due.refuses("propose(-1)", Due.ARGUMENT, () -> cafe.propose(-1));
